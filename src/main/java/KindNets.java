@@ -105,6 +105,7 @@ public final class KindNets {
         if (!net.has(i) || !net.has(k)) {
             return UNKNOWN;
         }
+        standing.catchUp();
         return standing.mayStand(i, k) ? 1 : 0;
     }
 
@@ -112,6 +113,7 @@ public final class KindNets {
         if (!net.has(i) || !net.has(k)) {
             return UNKNOWN;
         }
+        standing.catchUp();
         return j == -1 ? standing.stepsDown(i, k) : standing.stepDown(i, k, j);
     }
 
@@ -119,6 +121,7 @@ public final class KindNets {
         if (!net.has(i) || !net.has(k)) {
             return UNKNOWN;
         }
+        standing.catchUp();
         return standing.endOfWay(i, k);
     }
 
@@ -126,11 +129,16 @@ public final class KindNets {
         if (!net.has(i) || !net.has(k)) {
             return UNKNOWN;
         }
+        standing.catchUp();
         return standing.areAlike(i, k) ? 1 : 0;
     }
 
     public int pieces(int i) {
-        return net.has(i) ? standing.unlikeWithin(i) : UNKNOWN;
+        if (!net.has(i)) {
+            return UNKNOWN;
+        }
+        standing.catchUp();
+        return standing.unlikeWithin(i);
     }
 
     // ---- 3 above, below
@@ -187,6 +195,7 @@ public final class KindNets {
             case 3:
                 return leasts.emptyNodes();
             case 4:
+                standing.catchUp();
                 return standing.pairsThatMay();
             default:
                 return OUTSIDE;
@@ -279,27 +288,26 @@ public final class KindNets {
         }
 
         void setPart(int node, int slot, int part) {
-            if (has(node) && slot >= 0 && slot < SLOTS) {
+            if (node >= 0 && node < made && node < room && slot >= 0 && slot < SLOTS) {
                 slots[node] |= 1 << slot;
                 parts[node * SLOTS + slot] = part;
             }
         }
 
         int signOf(int node) {
-            return has(node) ? signs[node] : 0;
+            return node >= 0 && node < made && node < room ? signs[node] : 0;
         }
 
         /** Bit by bit which slots hold a PART. */
         int slotsOf(int node) {
-            return has(node) ? slots[node] : 0;
-        }
-
-        boolean hasPart(int node, int slot) {
-            return slot >= 0 && slot < SLOTS && (slotsOf(node) >> slot & 1) == 1;
+            return node >= 0 && node < made && node < room ? slots[node] : 0;
         }
 
         int partAt(int node, int slot) {
-            return hasPart(node, slot) ? parts[node * SLOTS + slot] : NONE;
+            if (node < 0 || node >= made || node >= room || slot < 0 || slot >= SLOTS) {
+                return NONE;
+            }
+            return (slots[node] >> slot & 1) == 1 ? parts[node * SLOTS + slot] : NONE;
         }
 
         void setName(int name, int node) {
@@ -375,7 +383,8 @@ public final class KindNets {
             }
             for (int node = 0; node < draft.nodes(); node++) {
                 for (int slot = 0; slot < SLOTS; slot++) {
-                    if (draft.hasPart(node, slot) && nodeOf(draft.partAt(node, slot)) == NONE) {
+                    int part = draft.partAt(node, slot);
+                    if (part != NONE && nodeOf(part) == NONE) {
                         return false;
                     }
                 }
@@ -388,8 +397,9 @@ public final class KindNets {
             for (int node = 0; node < draft.nodes(); node++) {
                 int copy = net.addNode(draft.signOf(node));
                 for (int slot = 0; slot < SLOTS; slot++) {
-                    if (draft.hasPart(node, slot)) {
-                        net.setPart(copy, slot, nodeOf(draft.partAt(node, slot)));
+                    int part = draft.partAt(node, slot);
+                    if (part != NONE) {
+                        net.setPart(copy, slot, nodeOf(part));
                     }
                 }
             }
@@ -510,14 +520,16 @@ public final class KindNets {
         private final Net net;
         private final int[] steps;
         private final int[] reached;
-        private final boolean[] isReached;
+        private final int[] reachedBy;
+        private int reachings;
         private int known;
 
         Standing(Net net) {
             this.net = net;
             steps = new int[MOST_NODES * MOST_NODES];
             reached = new int[MOST_NODES];
-            isReached = new boolean[MOST_NODES];
+            reachedBy = new int[MOST_NODES];
+            reachings = 0;
             known = 0;
         }
 
@@ -525,8 +537,24 @@ public final class KindNets {
             known = 0;
         }
 
+        /**
+         * Finds out all pairs; what is asked of pairs stands on it. NODES never change until all are
+         * replaced, so only pairs with a newer NODE are looked at.
+         */
+        void catchUp() {
+            int many = net.nodes();
+            if (known >= many) {
+                return;
+            }
+            startPairs(many);
+            boolean shorter = true;
+            for (int sweep = 0; sweep < MOST_NODES * MOST_NODES && shorter; sweep++) {
+                shorter = shortenPairs(many);
+            }
+            known = many;
+        }
+
         boolean mayStand(int i, int k) {
-            catchUp();
             return stepsOf(i, k) == NO_WAY;
         }
 
@@ -542,10 +570,7 @@ public final class KindNets {
             if (j < 0 || j >= stepsDown(i, k)) {
                 return NONE;
             }
-            int pair = i * MOST_NODES + k;
-            for (int gone = 0; gone < j; gone++) {
-                pair = pairBehind(pair, firstSlotDown(pair));
-            }
+            int pair = pairAfter(i, k, j);
             return stepThrough(net.signOf(pair / MOST_NODES), firstSlotDown(pair));
         }
 
@@ -554,10 +579,7 @@ public final class KindNets {
             if (far == NONE) {
                 return NONE;
             }
-            int pair = i * MOST_NODES + k;
-            for (int gone = 0; gone < far; gone++) {
-                pair = pairBehind(pair, firstSlotDown(pair));
-            }
+            int pair = pairAfter(i, k, far);
             return 100 * (pair / MOST_NODES) + pair % MOST_NODES;
         }
 
@@ -573,16 +595,23 @@ public final class KindNets {
         }
 
         int pairsThatMay() {
-            catchUp();
             int found = 0;
             for (int i = 0; i < net.nodes(); i++) {
                 for (int k = 0; k < net.nodes(); k++) {
-                    if (i != k && stepsOf(i, k) == NO_WAY) {
+                    if (i != k && mayStand(i, k)) {
                         found++;
                     }
                 }
             }
             return found;
+        }
+
+        private int pairAfter(int i, int k, int far) {
+            int pair = i * MOST_NODES + k;
+            for (int gone = 0; gone < far; gone++) {
+                pair = pairBehind(pair, firstSlotDown(pair));
+            }
+            return pair;
         }
 
         private boolean isAlikeEarlier(int r) {
@@ -600,42 +629,26 @@ public final class KindNets {
 
         /** Gathers a NODE and all that it holds: how many. */
         private int reachFrom(int i) {
-            Arrays.fill(isReached, false);
+            reachings++;
             int many = reachAlso(i, 0);
             for (int r = 0; r < many && r < MOST_NODES; r++) {
                 for (int slot = 0; slot < SLOTS; slot++) {
-                    many = reachAlso(net.partAt(reached[r], slot), many);
+                    many = reachAlso(net.partAt(reachedAt(r), slot), many);
                 }
             }
             return many;
         }
 
         private int reachAlso(int node, int many) {
-            if (!net.has(node) || node >= MOST_NODES || isReached[node]) {
+            if (node < 0 || node >= MOST_NODES || reachedBy[node] == reachings) {
                 return many;
             }
             if (many < 0 || many >= MOST_NODES) {
                 return many;
             }
-            isReached[node] = true;
+            reachedBy[node] = reachings;
             reached[many] = node;
             return many + 1;
-        }
-
-        /**
-         * NODES never change until all are replaced, so only pairs with a newer NODE are found out.
-         */
-        private void catchUp() {
-            int many = net.nodes();
-            if (known >= many) {
-                return;
-            }
-            startPairs(many);
-            boolean shorter = true;
-            for (int sweep = 0; sweep < MOST_NODES * MOST_NODES && shorter; sweep++) {
-                shorter = shortenPairs(many);
-            }
-            known = many;
         }
 
         private void startPairs(int many) {
@@ -704,15 +717,13 @@ public final class KindNets {
             if (pair < 0) {
                 return NONE;
             }
-            int i = pair / MOST_NODES;
-            int k = pair % MOST_NODES;
-            if (!net.hasPart(i, slot) || !net.hasPart(k, slot)) {
+            int one = net.partAt(pair / MOST_NODES, slot);
+            int other = net.partAt(pair % MOST_NODES, slot);
+            if (one == NONE || other == NONE) {
                 return NONE;
             }
-            boolean changesSides = net.signOf(i) == FUNCTION && slot == 0;
-            int one = net.partAt(changesSides ? k : i, slot);
-            int other = net.partAt(changesSides ? i : k, slot);
-            return one * MOST_NODES + other;
+            boolean changesSides = slot == 0 && net.signOf(pair / MOST_NODES) == FUNCTION;
+            return changesSides ? other * MOST_NODES + one : one * MOST_NODES + other;
         }
 
         private static int stepThrough(int sign, int slot) {
@@ -767,6 +778,7 @@ public final class KindNets {
         }
 
         int joined(int i, int k, int what) {
+            standing.catchUp();
             before = net.nodes();
             opened = 0;
             full = false;
@@ -894,20 +906,20 @@ public final class KindNets {
             openSigns = new int[MOST_SIGNS];
             openNodes = new int[MOST_SIGNS];
             openLetters = new int[MOST_SIGNS];
-            start(WHATEVER);
-        }
-
-        private void start(int node) {
             opened = 0;
             waits = FOR_VALUE;
-            due = node;
+            due = WHATEVER;
             begun = 0;
             misfit = NONE;
         }
 
         /** THE FAULT of the PAD as a VALUE, which is held against a NODE (or WHATEVER); NONE. */
         int read(int node) {
-            start(node);
+            opened = 0;
+            waits = FOR_VALUE;
+            due = node;
+            begun = 0;
+            misfit = NONE;
             for (int place = 0; place < pad.length(); place++) {
                 if (!goesOn(pad.signAt(place), place)) {
                     return place;
@@ -1084,8 +1096,8 @@ public final class KindNets {
         }
 
         private int dueAt(int slot) {
-            int node = innermostNode();
-            return net.hasPart(node, slot) ? net.partAt(node, slot) : WHATEVER;
+            int part = net.partAt(innermostNode(), slot);
+            return part == NONE ? WHATEVER : part;
         }
     }
 
@@ -1157,11 +1169,12 @@ public final class KindNets {
             if (within < 0 || within > LARGEST) {
                 return 0;
             }
-            Arrays.fill(ways, 0);
+            Arrays.fill(ways, 0L);
             ways[0] = 1;
             for (int slot = 0; slot < SLOTS; slot++) {
-                if (net.hasPart(node, slot)) {
-                    addLetter(net.partAt(node, slot), within);
+                int part = net.partAt(node, slot);
+                if (part != NONE) {
+                    addLetter(part, within);
                 }
             }
             return ways[within];
@@ -1240,7 +1253,9 @@ public final class KindNets {
             if (known < 0 || known >= many) {
                 return;
             }
-            Arrays.fill(found, known, many, EMPTY);
+            for (int node = known; node < many; node++) {
+                found[node] = EMPTY;
+            }
             boolean lesser = true;
             for (int sweep = 0; sweep < MOST_NODES * LARGEST && lesser; sweep++) {
                 lesser = lessen(many);
@@ -1279,8 +1294,9 @@ public final class KindNets {
         private int sumOfParts(int node) {
             int sum = 0;
             for (int slot = 0; slot < SLOTS; slot++) {
-                if (net.hasPart(node, slot)) {
-                    sum += foundOf(net.partAt(node, slot));
+                int part = net.partAt(node, slot);
+                if (part != NONE) {
+                    sum += foundOf(part);
                 }
             }
             return sum;
@@ -1289,9 +1305,7 @@ public final class KindNets {
         private int leastOfParts(int node) {
             int lowest = EMPTY;
             for (int slot = 0; slot < SLOTS; slot++) {
-                if (net.hasPart(node, slot)) {
-                    lowest = Math.min(lowest, foundOf(net.partAt(node, slot)));
-                }
+                lowest = Math.min(lowest, foundOf(net.partAt(node, slot)));
             }
             return lowest;
         }

@@ -44,11 +44,10 @@ public final class LanguageTest {
                     blame(n, "more than seven parameters");
                 }
             }
-            if (line.matches("^ {4,8}\\}$") && n - begun > 60) {
-                blame(n, "a method of more than sixty lines");
-                begun = n;
-            }
             if (line.matches("^ {4,8}\\}$")) {
+                if (n - begun > 60) {
+                    blame(n, "a method of more than sixty lines");
+                }
                 begun = n;
             }
             classes += line.matches(".*\\b(class|enum|interface|record) [A-Z].*") ? 1 : 0;

@@ -354,7 +354,9 @@ public final class KindNets {
             draft.clear();
             place = 0;
             stuck = false;
-            for (int before = 0; before < NAMES; before++) {
+            // A ninth naming is begun too: its NAME is the fault, not the ; ahead of it, for which
+            // NAMES are told does not matter there.
+            for (int before = 0; before <= NAMES; before++) {
                 readNaming();
                 if (stuck) {
                     return place;
@@ -362,8 +364,7 @@ public final class KindNets {
                 if (place >= pad.length()) {
                     return NONE;
                 }
-                // Once every NAME is told, a ; cannot be followed by one that is not told yet.
-                if (pad.signAt(place) != ';' || before == NAMES - 1) {
+                if (pad.signAt(place) != ';') {
                     return place;
                 }
                 place++;

@@ -109,7 +109,7 @@ final class KindModel {
         }
         if (top.equals("more")) {
             stack.push("naming");
-            return sign == ';' && told.size() < 8;
+            return sign == ';';
         }
         String[] words = top.split(" ");
         int depth = Integer.parseInt(words[1]);

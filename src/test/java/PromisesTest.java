@@ -1,37 +1,5 @@
 /** Promise by promise: ordinary inputs, the edges that the document names, wrong inputs. */
-public final class PromisesTest {
-    private static final int NONE = -6, UNKNOWN = -1, OUTSIDE = -2, FULL = -4, NO = -5;
-    private static final int[] NO_NODES = {-1, Integer.MIN_VALUE, Integer.MAX_VALUE, 60, 1000};
-    private static int wrong = 0;
-
-    private static void due(String call, int got, int want) {
-        if (got != want) {
-            wrong++;
-            System.out.println(call + " answered " + got + ", due is " + want);
-        }
-    }
-
-    private static KindNets laid(String signs) {
-        KindNets x = new KindNets();
-        lay(x, signs);
-        return x;
-    }
-
-    private static void lay(KindNets x, String signs) {
-        x.wipe();
-        for (char sign : signs.toCharArray()) {
-            x.say(sign);
-        }
-    }
-
-    private static KindNets taken(String text) {
-        KindNets x = laid(text);
-        if (x.take() < 1) {
-            due("take of " + text, x.take(), 1);
-        }
-        return x;
-    }
-
+public final class PromisesTest extends Checks {
     public static void main(String[] args) {
         newObject();
         saying();
@@ -54,10 +22,7 @@ public final class PromisesTest {
         counting();
         leasts();
         telling();
-        System.out.println(wrong == 0 ? "the promises hold" : wrong + " answers are not as due");
-        if (wrong != 0) {
-            System.exit(1);
-        }
+        close("the promises hold");
     }
 
     /** Promise 1. */
@@ -82,7 +47,7 @@ public final class PromisesTest {
     /** Promise 2. */
     private static void saying() {
         KindNets x = new KindNets();
-        int[] none = {32, 127, 0, -1, 255, Integer.MIN_VALUE, Integer.MAX_VALUE};
+        int[] none = {32, 127, 0, -1, 255, LEAST_INT, MOST_INT};
         for (int sign : none) {
             due("say " + sign, x.say(sign), OUTSIDE);
         }
@@ -134,8 +99,8 @@ public final class PromisesTest {
         deepFaults();
         String eight = "A=n;B=n;C=n;D=n;E=n;F=n;G=n;H=n";
         dueFault(eight, NONE);
-        dueFault(eight + ";", 31);
-        dueFault(eight + ";A=n", 31);
+        dueFault(eight + ";", 32);
+        dueFault(eight + ";A=n", 32);
         due("fault changes nothing", laid(eight).told(0), 31);
     }
 
@@ -216,7 +181,7 @@ public final class PromisesTest {
         for (int n = 0; n < 8; n++) {
             due("name " + n, x.name(n), due[n]);
         }
-        int[] none = {-1, 8, Integer.MIN_VALUE, Integer.MAX_VALUE};
+        int[] none = {-1, 8, LEAST_INT, MOST_INT};
         for (int n : none) {
             due("name " + n, x.name(n), UNKNOWN);
         }
@@ -236,8 +201,8 @@ public final class PromisesTest {
             }
             due("node " + i + " 9", x.node(i, 9), OUTSIDE);
             due("node " + i + " -2", x.node(i, -2), OUTSIDE);
-            due("node far", x.node(i, Integer.MAX_VALUE), OUTSIDE);
-            due("node far", x.node(i, Integer.MIN_VALUE), OUTSIDE);
+            due("node far", x.node(i, MOST_INT), OUTSIDE);
+            due("node far", x.node(i, LEAST_INT), OUTSIDE);
         }
         due("node 10", x.node(10, -1), UNKNOWN);
         for (int i : NO_NODES) {
@@ -311,8 +276,8 @@ public final class PromisesTest {
         }
         due(text + " way behind", x.way(i, k, steps.length), NONE);
         due(text + " way -2", x.way(i, k, -2), NONE);
-        due(text + " way far", x.way(i, k, Integer.MAX_VALUE), NONE);
-        due(text + " way far", x.way(i, k, Integer.MIN_VALUE), NONE);
+        due(text + " way far", x.way(i, k, MOST_INT), NONE);
+        due(text + " way far", x.way(i, k, LEAST_INT), NONE);
         due(text + " end", x.end(i, k), end);
     }
 
@@ -640,7 +605,7 @@ public final class PromisesTest {
         dueCounts("A={asbscsdsesfsgshs}", 0, 0, 0, 0, 0, 0, 0, 0, 1000000000, 0, 0, 0);
         dueCounts("A={a*sb*sc!}", 0, 0, 0, 0, 0, 0, 0, 0, 0, 0, 0, 0);
         KindNets x = taken("A=n;B=t");
-        int[] none = {0, 13, -1, Integer.MIN_VALUE, Integer.MAX_VALUE};
+        int[] none = {0, 13, -1, LEAST_INT, MOST_INT};
         for (int size : none) {
             due("count by " + size, x.count(0, size), OUTSIDE);
             due("count of none by " + size, x.count(2, size), UNKNOWN);
@@ -693,7 +658,7 @@ public final class PromisesTest {
         due("names", x.told(2), 3);
         due("empty nodes", x.told(3), 3);
         due("pairs", x.told(4), 5 + 6);
-        int[] none = {-1, 5, Integer.MIN_VALUE, Integer.MAX_VALUE};
+        int[] none = {-1, 5, LEAST_INT, MOST_INT};
         for (int what : none) {
             due("told " + what, x.told(what), OUTSIDE);
         }

@@ -201,6 +201,14 @@ public final class JoinEdgesTest extends Checks {
         due("all above alike", x.alike(2, 6), 1);
         due("all below alike", x.alike(7, 11), 1);
         due("above and below unlike", x.alike(6, 7), 0);
+        x = new KindNets();
+        for (int time = 0; time < 3; time++) {
+            lay(x, "A={an};B={at}");
+            due("take", x.take(), 4);
+            due("the same two of the same text", x.join(0, 2, 0), 4);
+            dueNode(x, 4, "{a", 5);
+            due("nodes", x.told(1), 6);
+        }
     }
 
     /** "where it comes to the same two again, that NODE is meant". */
@@ -295,8 +303,11 @@ public final class JoinEdgesTest extends Checks {
         dueNode(x, 58, "{a", 59);
         dueNode(x, 59, ".");
         x = withNodes(59);
-        due("two of one left", x.join(2, 4, 0), FULL);
-        due("59 nodes still", x.told(1), 59);
+        for (int time = 0; time < 3; time++) {
+            due("two of one left", x.join(2, 4, 0), FULL);
+            due("two of one left, below", x.join(2, 4, 1), FULL);
+            due("59 nodes still", x.told(1), 59);
+        }
         due("no node 59", x.node(59, -1), UNKNOWN);
         due("one of one left", x.join(0, 1, 0), 59);
         dueNode(x, 59, ".");

@@ -19,6 +19,7 @@ public final class StandingEdgesTest extends Checks {
         alikeIsBothWays();
         piecesAreUnlike();
         piecesAcrossMadeNodes();
+        madeNodesAndOlderOnes();
         unknownNodes();
         close("the edges of standing hold");
     }
@@ -178,6 +179,10 @@ public final class StandingEdgesTest extends Checks {
         dueWay("A=>*nn;B=>*tt", 307, 10);
         dueWay("A=>n*n;B=>t*t", 501, 9);
         dueWay("A={aAbn};B={a{a{a{aBbt}bn}bn}bn}", 106, 0, 0, 0, 1);
+        dueWay("A={anbn};B={bt}", 204, 1);
+        dueWay("A={angnhn};B={ht}", 305, 7);
+        dueWay("A=[bn];B=[atbt]", 104, 1);
+        dueWay("A=[hn];B=[atgtht]", 105, 7);
     }
 
     /** "of several the first by steps". */
@@ -223,6 +228,10 @@ public final class StandingEdgesTest extends Checks {
         dueWay("A={};B={an}", 1);
         dueWay("A=[an];B=[]", 2);
         dueWay("A=.;B=!", 1);
+        dueWay("A=*n;B=n", 2);
+        dueWay("A=>nn;B=n", 3);
+        dueWay("A=n;B=>nn", 1);
+        dueWay("A=*>nn;B=**n", 105, 8);
         dueWay("A=************n;B=************t", 1225, 8, 8, 8, 8, 8, 8, 8, 8, 8, 8, 8, 8);
         KindNets x = lateMisfit();
         int b = x.name(1);
@@ -296,6 +305,8 @@ public final class StandingEdgesTest extends Checks {
         duePieces("A={aB};B={aC};C={aD};D={aE};E={aF};F={aG};G={aH};H={aAbn}", 9);
         duePieces("A={aB};B={aC};C={aDbn};D={aE};E={aF};F={aAbn}", 4);
         duePieces("A=[a>nn];B=A;C=t", 3);
+        String all = "={aBbBcBdBeBfBgBhB}";
+        duePieces("A" + all + ";B" + all.replace('B', 'C') + ";C" + all.replace('B', 'D') + ";D=n", 4);
         KindNets x = taken("A={a*nb{cn}};B=t");
         int[] pieces = {4, 2, 1, 2, 1, 1};
         for (int i = 0; i < pieces.length; i++) {
@@ -312,6 +323,23 @@ public final class StandingEdgesTest extends Checks {
         due("pieces of what stands for all", x.pieces(8), 2);
         due("the made ones are unlike", x.alike(6, 8), 0);
         due("below stands for above", x.may(8, 6), 1);
+    }
+
+    /** What was asked before a NODE was made does not hide what it does not fit. */
+    private static void madeNodesAndOlderOnes() {
+        KindNets x = taken("A={an};B={at};C={a*n};D={a*t}");
+        due("pairs", x.told(4), 4);
+        due("above", x.join(0, 2, 0), 10);
+        due("below", x.join(0, 2, 1), 12);
+        due("above of lists", x.join(4, 7, 0), 14);
+        int[][] rows = {{10, 0, 0, 1101}, {0, 10, 1, NONE}, {0, 12, 0, 113}, {12, 0, 1, NONE}, {14, 10, 1, NONE},
+            {14, 4, 0, 1606}, {4, 14, 1, NONE}, {10, 14, 0, 1115}, {12, 14, 1, NONE}, {14, 12, 0, 1513}};
+        for (int[] row : rows) {
+            due("may " + row[0] + " " + row[1], x.may(row[0], row[1]), row[2]);
+            due("end " + row[0] + " " + row[1], x.end(row[0], row[1]), row[3]);
+        }
+        due("a step from a made one", x.way(14, 4, 1), 8);
+        due("steps from a made one", x.way(14, 4, -1), 2);
     }
 
     /** "UNKNOWN" of each call here, at the last NODE and behind it. */

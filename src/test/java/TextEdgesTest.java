@@ -10,6 +10,7 @@ public final class TextEdgesTest extends Checks {
         signsHaveCodes33To126();
         hundredSignsLieOnThePad();
         wipeTellsHowManyThereWere();
+        signsThatWentAreNotRead();
         aTextGoesOnWithTheseSignsAlone();
         lettersRiseFromAToH();
         thereMayBeNoFieldsAndNoCases();
@@ -25,6 +26,7 @@ public final class TextEdgesTest extends Checks {
         namesAreNoNodes();
         nodesAreNumberedAsWritten();
         theTextReplacesAll();
+        whatWasAskedAheadIsAskedAnew();
         namesAreAToH();
         partsOfNodes();
         close("the edges of texts hold");
@@ -85,6 +87,28 @@ public final class TextEdgesTest extends Checks {
         due("wipe of three", x.wipe(), 3);
         due("nodes stay", x.told(1), 3);
         due("names stay", x.told(2), 2);
+    }
+
+    private static void signsThatWentAreNotRead() {
+        KindNets x = laid("A=nn");
+        due("fault of four", x.fault(), 3);
+        lay(x, "A=n");
+        due("fault of three", x.fault(), NONE);
+        lay(x, "A=");
+        due("fault of two", x.fault(), 2);
+        due("take of two", x.take(), NO);
+        lay(x, "A={an}");
+        due("take", x.take(), 2);
+        lay(x, "A={");
+        due("fault where signs of a text that was taken lay", x.fault(), 3);
+        lay(x, "");
+        due("fault of none", x.fault(), 0);
+        lay(x, "B={anb{cn");
+        due("fault of one that is not whole", x.fault(), 9);
+        lay(x, "B=n");
+        due("fault behind one that is not whole", x.fault(), NONE);
+        due("take behind one that is not whole", x.take(), 1);
+        due("a name that was read but not taken", x.name(0), NONE);
     }
 
     /** Behind a beginning just these signs go on; every other one is THE FAULT, at its place. */
@@ -361,6 +385,30 @@ public final class TextEdgesTest extends Checks {
         due("take again", x.take(), 2);
         due("may of the new ones", x.may(0, 1), 1);
         due("no parts", x.node(0, 8), 0);
+    }
+
+    /** With fewer NODES than before, as many, and more. */
+    private static void whatWasAskedAheadIsAskedAnew() {
+        String[] texts = {"A={anbt};B=*n", "A=[anbt];B=!", "A=!;B=n", "A=n;B=.", "A={aA};B={aB};C=s;D=t;E=.;F=!",
+            "A=>nn;B=[a{}]", "A={anbt};B=*n"};
+        KindNets x = new KindNets();
+        for (String text : texts) {
+            lay(x, text);
+            KindNets anew = laid(text);
+            due("take of " + text, x.take(), anew.take());
+            for (int i = 0; i < anew.told(1); i++) {
+                due("may 0 " + i + " of " + text, x.may(0, i), anew.may(0, i));
+                due("end " + i + " 1 of " + text, x.end(i, 1), anew.end(i, 1));
+                due("pieces " + i + " of " + text, x.pieces(i), anew.pieces(i));
+                due("count " + i + " of " + text, x.count(i, 1), anew.count(i, 1));
+                due("least " + i + " of " + text, x.least(i), anew.least(i));
+            }
+            for (int what = 0; what <= 4; what++) {
+                due("told " + what + " of " + text, x.told(what), anew.told(what));
+            }
+            due("join of " + text, x.join(0, 1, 0), anew.join(0, 1, 0));
+            due("nodes of " + text, x.told(1), anew.told(1));
+        }
     }
 
     /** "0 for A"; "NONE: it is not told"; "UNKNOWN". */

@@ -82,7 +82,7 @@ final class TextMaker {
         for (int t = 0; t < times && text.length() > 0; t++) {
             int at = dice.below(text.length());
             char sign = SIGNS.charAt(dice.below(SIGNS.length()));
-            switch (dice.below(4)) {
+            switch (dice.below(5)) {
                 case 0:
                     text.setCharAt(at, sign);
                     break;
@@ -91,6 +91,9 @@ final class TextMaker {
                     break;
                 case 2:
                     text.deleteCharAt(at);
+                    break;
+                case 3:
+                    text.append(';').append(dice.oneIn(2) ? "" : (char) ('A' + dice.below(9)) + "=n");
                     break;
                 default:
                     text.setLength(at);

@@ -8,6 +8,7 @@ public final class ValueEdgesTest extends Checks {
         aValueGoesOnWithTheseSignsAlone();
         behindTheLastSignTheFaultIsTheirNumber();
         hundredSignsOfAValue();
+        aValueIsReadAnew();
         bySignsOfTheirOwn();
         anyAndNothing();
         recordsNeedAllLetters();
@@ -85,6 +86,27 @@ public final class ValueEdgesTest extends Checks {
         due("choices within one another", laid("[h".repeat(33) + "1" + "]".repeat(33)).slip(), NONE);
         due("records within one another", laid("{h".repeat(33) + "1" + "}".repeat(33)).slip(), NONE);
         due("a $ at the end of a full pad", laid("(" + "$a".repeat(49) + "$").slip(), 100);
+    }
+
+    /** What was read before, whole or not, leaves nothing behind. */
+    private static void aValueIsReadAnew() {
+        KindNets x = taken("A=n;B=*n");
+        String[] values = {"((", "1", "(1)", "(1", "$a", "$", "{a1", "1", "{a{b[", "(12)", "{}", "{", "[a", "2", "(T)", "(", "3"};
+        for (String value : values) {
+            lay(x, value);
+            KindNets anew = taken("A=n;B=*n");
+            lay(anew, value);
+            due("slip of " + value, x.slip(), anew.slip());
+            due("size of " + value, x.size(), anew.size());
+            due("fits 0 of " + value, x.fits(0), anew.fits(0));
+            due("fits 1 of " + value, x.fits(1), anew.fits(1));
+        }
+        lay(x, "((");
+        due("not whole", x.slip(), 2);
+        lay(x, "4");
+        due("whole behind it", x.slip(), NONE);
+        lay(x, "(");
+        due("a sign that went", x.slip(), 1);
     }
 
     private static void dueFits(String kind, String value, int want) {
@@ -328,6 +350,17 @@ public final class ValueEdgesTest extends Checks {
         due("join", x.join(0, 2, 0), 3);
         due("count of what is made", x.count(3, 1), 0);
         due("count behind what is made", x.count(4, 1), UNKNOWN);
+        x = taken("A=[an];B=[btc*n]");
+        due("count ahead of the join", x.count(0, 2) + x.count(2, 2), 13);
+        due("least ahead of the join", x.least(0) + x.least(2), 4);
+        due("all letters of either", x.join(0, 2, 0), 6);
+        due("count of it", x.count(6, 2), 13);
+        due("count of it by 3", x.count(6, 3), 10);
+        due("least of it", x.least(6), 2);
+        due("letters of both", x.join(0, 2, 1), 7);
+        due("count of none", x.count(7, 2), 0);
+        due("least of none", x.least(7), NONE);
+        due("count of what is older", x.count(2, 2), 3);
     }
 
     private static String fields(int many) {

@@ -19,6 +19,7 @@ public final class JoinEdgesTest extends Checks {
         whatIsMadeIsJoinedAgain();
         sixtyNodesAtMost();
         sixtyNodesOfRings();
+        sixtyNodesOfSix();
         whatNeedsNoneIsNeverFull();
         refusalsInOrder();
         close("the edges of above and below hold");
@@ -335,6 +336,24 @@ public final class JoinEdgesTest extends Checks {
             due("no node 19", x.node(19, 0), UNKNOWN);
             due("a short one still", x.join(0, 6, what), 19);
         }
+    }
+
+    /** Six NODES of which one asking needs 54 more, by nearly all pairs of them, above and below; or more. */
+    private static void sixtyNodesOfSix() {
+        KindNets x = taken("A=>BB;B=>CF;C=>AD;D=>EA;E=>DC;F=*A");
+        due("54 in one asking", x.join(3, 4, 0), 6);
+        due("60 nodes", x.told(1), 60);
+        for (int made = 6; made < 60; made++) {
+            boolean function = x.node(made, -1) == '>';
+            due("parts of " + made, x.node(made, 8), function ? 2 : 0);
+            due("first part of " + made, x.node(made, 0) >= 0 ? 1 : 0, function ? 1 : 0);
+            due("second part of " + made, x.node(made, 1) >= 0 ? 1 : 0, function ? 1 : 0);
+        }
+        due("both may stand for it", x.may(3, 6) + x.may(4, 6), 2);
+        x = taken("A=*C;B=>DA;C=>EB;D=>FD;E=>AC;F=>CF");
+        due("more in one asking", x.join(1, 2, 0), FULL);
+        due("more in one asking, turned", x.join(2, 1, 1), FULL);
+        due("six nodes still", x.told(1), 6);
     }
 
     private static void whatNeedsNoneIsNeverFull() {
